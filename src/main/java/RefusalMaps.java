@@ -688,7 +688,6 @@ public final class RefusalMaps {
             goals[one] = -1;
             charts[one] = 0;
             noes[one] = 0;
-            // An undo may have left another one's row here.
             for (int part = 0; part < PARTS; part++) {
                 rows[PARTS * one + part] = 0;
             }
