@@ -132,6 +132,16 @@ public final class HoursTest {
         y.goal(0, 0);
         y.goal(1, 5);
         Due.due("the SOLDIER is first: the other is still there", y.on(1, 10), 2);
+        y.put(0, 3);
+        y.put(1, 5);
+        y.goal(1, 1);
+        Due.due("behind an hour it stands beside the other", y.on(1, 10), 2);
+        Due.due("in the second hour it is refused at 1, where the other has come", y.on(2, 10), 2);
+        Due.due("THERE of the SOLDIER", y.of(0, 6), 6);
+        Due.due("KEY of the SOLDIER", y.of(0, 9), 1);
+        y.see(0, 2, 2);
+        Due.due("FROM of the SOLDIER: by 3 or 6 to 2 and refused, or to 2 by then", y.of(0, 10), 1 << 3 | 1 << 6 | 1 << 7 | 1 << 10);
+        Due.due("CAN of the SOLDIER: refused by v 0 .. 5", y.can(0, 0), 6);
         RefusalMaps z = new RefusalMaps();
         z.traveller(0, 0, 1);
         z.traveller(4, 4, 2);

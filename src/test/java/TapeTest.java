@@ -17,13 +17,14 @@ public final class TapeTest {
         Due.due("nothing is there yet", x.item(0, 0, 0), -11);
         for (int sort = 0; sort < 5; sort++) {
             Due.due("tape(sort, sort, 60)", x.tape(sort, sort, 60), 1);
+            Due.due("item(sort, 0, 1)", x.item(sort, 0, 1), 1);
             Due.due("item(sort, 59, 1)", x.item(sort, 59, 1), 1);
             Due.due("item(sort, 60, 1)", x.item(sort, 60, 1), -13);
             Due.due("read(sort, 59)", x.read(sort, 59), 1);
             Due.due("read(sort, 58)", x.read(sort, 58), 0);
             Due.due("read(sort, 60)", x.read(sort, 60), RefusalMaps.NO);
             Due.due("tape again: all 0", x.tape(sort, sort, 60), 1);
-            Due.due("read(sort, 59)", x.read(sort, 59), 0);
+            for (int i = 0; i < 60; i++) Due.due("read(sort, i)", x.read(sort, i), 0);
         }
         Due.due("a row of none", x.tape(5, 2, 0), 1);
         Due.due("item(5, 0, 0)", x.item(5, 0, 0), -13);
