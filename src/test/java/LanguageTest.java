@@ -87,6 +87,9 @@ public final class LanguageTest {
             if (each != RefusalMaps.class) {
                 expect(Modifier.isStatic(each.getModifiers()) && !Modifier.isPublic(each.getModifiers()), each + " is not static, or public");
                 expect(each.getDeclaredClasses().length == 0, each + " has classes inside");
+                for (Method method : each.getDeclaredMethods()) {
+                    for (String named : FACE) expect(!named.contains(" " + method.getName() + "("), method + " bears a public one's name");
+                }
             }
         }
     }

@@ -115,6 +115,10 @@ public final class NationTest {
         RefusalMaps x = new RefusalMaps();
         Due.nation(x, ten.toString());
         Due.due("FADE: the last one's", x.told(1), 9);
+        Due.due("fade 0 behind another", Due.nation(x, "fade 7;open 1 p=0;fade 0"), 1);
+        Due.due("FADE: the last one's, 0", x.told(1), 0);
+        Due.due("another behind fade 0", Due.nation(x, "fade 0;fade 7;open 1 p=0"), 2);
+        Due.due("FADE: the last one's, ahead of another clause", x.told(1), 7);
         // A text of 100 signs, read to its end.
         StringBuilder full = new StringBuilder("open 1 p=1");
         while (full.length() < 100) full.append(full.length() > 85 ? ";shut 2 (k=10)".substring(0, 14) : "|p=1");
