@@ -81,24 +81,25 @@ public final class EdgeTest {
                 Due.due("SOLDIER where nobody is", beauty.welcome(1, 15), gate + v);
                 Due.due("SOLDIER where it is and another is", beauty.welcome(1, 3), gate + v - 8);
                 Due.due("SOLDIER where one with a lesser number is", beauty.welcome(2, 0), gate + v - 8);
-                Due.due("SOLDIER where two others are: 8 once", beauty.put(0, 3) + beauty.welcome(2, 3), gate + v - 8);
+                beauty.put(0, 3);
+                Due.due("SOLDIER where two others are: 8 once", beauty.welcome(2, 3), gate + v - 8);
                 beauty.put(0, 0);
             }
         }
-        // The greatest and the least that a text of 100 can say.
-        String nine = "p=0;%s 99 p=0;%s 99 p=0;%s 99 p=0;%s 99 p=0;%s 99 p=0;%s 99 p=0;%s 99 p=0";
-        RefusalMaps much = one(1, 9, 0);
-        much.gate(0, 9);
-        Due.due("open 99, eight times", Due.nation(much, "open 99 " + nine.replace("%s", "open")), 0);
-        Due.due("the greatest", much.welcome(0, 0), 8 * 99 + 9 + 9);
-        RefusalMaps little = one(6, 0, 0);
-        little.gate(0, 0);
-        Due.due("shut 99, eight times", Due.nation(little, "shut 99 " + nine.replace("%s", "shut")), 0);
-        Due.due("the least", little.welcome(0, 0), -8 * 99 - 4);
-        RefusalMaps less = one(2, 0, 0);
-        less.gate(0, 0);
-        Due.nation(less, "shut 99 " + nine.replace("%s", "shut"));
-        Due.due("the half of the least", less.welcome(0, 0), -4 * 99 + 1);
+    }
+
+    /** The greatest and the least SUM: more than eight clauses of it are no text of 100. */
+    private static void greatestAndLeast() {
+        RefusalMaps greatest = one(1, 9, 0);
+        greatest.gate(0, 9);
+        Due.due("open 99, eight times", Due.nation(greatest, "open 99 p=0" + ";open 99 p=0".repeat(7)), 0);
+        Due.due("the greatest of a BEAUTY", greatest.welcome(0, 0), 8 * 99 + 9 + 9);
+        RefusalMaps least = one(6, 0, 0);
+        least.traveller(2, 0, 0);
+        least.gate(0, 0);
+        Due.due("shut 99, eight times", Due.nation(least, "shut 99 p<9" + ";shut 99 p<9".repeat(7)), 0);
+        Due.due("the least of a TOLD", least.welcome(0, 0), -8 * 99 - 4);
+        Due.due("the least of a SAILOR", least.welcome(1, 0), -4 * 99 + 1);
     }
 
     /** "It is REFUSED at a CELL, if WELCOME is 0 or below": by a WELCOME of 0 and of 1 it tries cell 1. */
@@ -678,6 +679,7 @@ public final class EdgeTest {
         promise1();
         promise2();
         promise4();
+        greatestAndLeast();
         refusedOrNot();
         promises5To9();
         faults();
