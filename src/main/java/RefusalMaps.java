@@ -624,7 +624,8 @@ public final class RefusalMaps {
 
     /** Gates, travellers with all that is theirs, the hour, and the nation that holds. */
     private static final class Land {
-        static final int MOST_NOES = 9999, NO_LIMIT = Integer.MAX_VALUE;
+        /** What is asked goes on for 40 hours at most, each with one more at most: that never comes to NO_LIMIT. */
+        static final int MOST_NOES = 9999, NO_LIMIT = 1_000_000;
         static final int PLAN_HOUR = 0, PLAN_CLEAR = 1, PLAN_LEND = 2, PLAN_NO_GOAL = 3;
 
         final int[] gates = new int[CELLS];

@@ -70,6 +70,17 @@ public final class LanguageTest {
         expect(constants.equals(new TreeSet<>(List.of("NONE", "BAD", "STATE", "FULL", "NO"))), "the constants are " + constants);
     }
 
+    private static boolean isConstant(Class<?> type) {
+        return List.of(int.class, long.class, boolean.class, char.class, String.class,
+            int[].class, long[].class, char[].class, byte[].class).contains(type);
+    }
+
+    /** A number, a truth, a text or an own class, or an array of one dimension of numbers or of an own class. */
+    private static boolean isType(Class<?> type) {
+        Class<?> item = type.isArray() ? type.getComponentType() : type;
+        return item.isPrimitive() || item == String.class && !type.isArray() || item.getEnclosingClass() == RefusalMaps.class;
+    }
+
     private static void classes() {
         List<Class<?>> all = new ArrayList<>();
         all.add(RefusalMaps.class);
@@ -81,9 +92,14 @@ public final class LanguageTest {
                 boolean isStatic = Modifier.isStatic(field.getModifiers());
                 expect(!isStatic || Modifier.isFinal(field.getModifiers()), field + " is static and not final");
                 if (!isStatic) fields++;
+                expect(isStatic ? isConstant(field.getType()) : isType(field.getType()), field + " is of another type");
             }
             expect(fields <= 20, each + " has " + fields + " fields");
-            for (Method method : each.getDeclaredMethods()) expect(method.getParameterCount() <= 7, method + " takes too many");
+            for (Method method : each.getDeclaredMethods()) {
+                expect(method.getParameterCount() <= 7, method + " takes too many");
+                expect(isType(method.getReturnType()), method + " answers with another type");
+                for (Class<?> type : method.getParameterTypes()) expect(isType(type), method + " takes another type");
+            }
             if (each != RefusalMaps.class) {
                 expect(Modifier.isStatic(each.getModifiers()) && !Modifier.isPublic(each.getModifiers()), each + " is not static, or public");
                 expect(each.getDeclaredClasses().length == 0, each + " has classes inside");
@@ -95,7 +111,7 @@ public final class LanguageTest {
     }
 
     /** The source without what stands in comments and quotes. */
-    private static String bare(String source) {
+    static String bare(String source) {
         return source.replaceAll("(?s)/\\*.*?\\*/", " ").replaceAll("//[^\n]*", " ")
             .replaceAll("\"([^\"\\\\\n]|\\\\.)*\"", "\"\"").replaceAll("'([^'\\\\\n]|\\\\.)'", "''");
     }
@@ -114,7 +130,7 @@ public final class LanguageTest {
         TreeSet<String> library = new TreeSet<>();
         java.util.regex.Matcher calls = java.util.regex.Pattern.compile("\\b(System|Math|Integer|Long|Arrays|String)\\.(\\w+)").matcher(bare);
         while (calls.find()) library.add(calls.group());
-        library.removeAll(List.of("System.arraycopy", "Math.max", "Math.min", "Integer.bitCount", "Integer.MAX_VALUE", "Long.MIN_VALUE"));
+        library.removeAll(List.of("System.arraycopy", "Math.max", "Math.min", "Integer.bitCount", "Long.MIN_VALUE"));
         expect(library.isEmpty(), "the source uses " + library);
         // Each loop is a for with a bound in its head.
         expect(!bare.matches("(?s).*\\b(while|do)\\b.*"), "the source has a while");
